@@ -1,0 +1,124 @@
+/** What the tests share: it prints every answer that is not the one that is due. */
+final class Check {
+    private static int checks = 0;
+    private static int wrong = 0;
+
+    interface Call {
+        void make();
+    }
+
+    private Check() {
+    }
+
+    static void same(String what, long got, long due) {
+        same(what, String.valueOf(got), String.valueOf(due));
+    }
+
+    static void same(String what, boolean got, boolean due) {
+        same(what, String.valueOf(got), String.valueOf(due));
+    }
+
+    static void same(String what, String got, String due) {
+        checks++;
+        if (!got.equals(due)) {
+            wrong++;
+            System.out.println(what + " answered " + got + ", due is " + due);
+        }
+    }
+
+    /** The call throws exactly this class, and nothing that can be asked for has changed. */
+    static void illegalArgument(String what, OptionWire wire, Call call) {
+        throwing(what, wire, IllegalArgumentException.class, call);
+    }
+
+    static void illegalState(String what, OptionWire wire, Call call) {
+        throwing(what, wire, IllegalStateException.class, call);
+    }
+
+    static void noSuchElement(String what, OptionWire wire, Call call) {
+        throwing(what, wire, java.util.NoSuchElementException.class, call);
+    }
+
+    private static void throwing(String what, OptionWire wire, Class<?> due, Call call) {
+        String before = standing(wire);
+        String got = "nothing";
+        try {
+            call.make();
+        } catch (RuntimeException e) {
+            got = e.getClass().getName();
+        }
+        same(what + " throws", got, due.getName());
+        same("how things stand after " + what, standing(wire), before);
+    }
+
+    /** All that can be asked for without a change. */
+    static String standing(OptionWire wire) {
+        StringBuilder text = new StringBuilder("time " + wire.time());
+        for (int end = 0; end <= 1; end++) {
+            text.append("; end ").append(end).append(": ").append(line(wire, end));
+            text.append(", state ").append(wire.state(end));
+            text.append(", tries ").append(wire.tries(end));
+            text.append(", asked/granted/allowed");
+            for (int option = 0; option <= 3; option++) {
+                text.append(' ').append(wire.asked(end, option));
+                text.append('/').append(wire.granted(end, option));
+                text.append('/').append(wire.allowed(end, option));
+            }
+            text.append(", waiting ").append(kinds(wire, end));
+        }
+        return text.toString();
+    }
+
+    static String line(OptionWire wire, int end) {
+        StringBuilder text = new StringBuilder();
+        int length = wire.lineLength(end);
+        for (int place = 0; place < length; place++) {
+            text.append(wire.lineChar(end, place));
+        }
+        return text.toString();
+    }
+
+    static String kinds(OptionWire wire, int end) {
+        StringBuilder text = new StringBuilder("[");
+        int count = wire.waiting(end);
+        for (int place = 0; place < count; place++) {
+            text.append(place == 0 ? "" : " ").append(wire.kindAt(end, place));
+        }
+        return text.append(']').toString();
+    }
+
+    /** The asked values of an end, option by option. */
+    static String asked(OptionWire wire, int end) {
+        return wire.asked(end, 0) + " " + wire.asked(end, 1) + " "
+                + wire.asked(end, 2) + " " + wire.asked(end, 3);
+    }
+
+    static void ticks(OptionWire wire, int count) {
+        for (int i = 0; i < count; i++) {
+            wire.tick();
+        }
+    }
+
+    static void deliverAll(OptionWire wire, int end) {
+        for (int i = wire.waiting(end); i > 0; i--) {
+            wire.deliver(end);
+        }
+    }
+
+    /** Two ends that have opened with their wishes; marks 1 and 2, nothing waits. */
+    static void openBoth(OptionWire wire) {
+        wire.open(0, 1);
+        wire.open(1, 2);
+        for (int round = 0; round < 20 && wire.waiting(0) + wire.waiting(1) > 0; round++) {
+            deliverAll(wire, 1);
+            deliverAll(wire, 0);
+        }
+    }
+
+    static void finish() {
+        System.out.println(checks + " answers looked at, " + wrong + " not as due");
+        if (wrong != 0) {
+            System.exit(1);
+        }
+    }
+}
