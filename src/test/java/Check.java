@@ -99,6 +99,41 @@ final class Check {
         }
     }
 
+    /**
+     * Makes calls told by short words: o0:7 is open(0, 7), c0 is close(0), d0 is deliver(0), l0 is
+     * lose(0), t3 is three ticks, "loop" and "unloop" are loop(true) and loop(false).
+     */
+    static void play(OptionWire wire, String moves) {
+        for (String move : moves.split(" ")) {
+            if (move.equals("loop") || move.equals("unloop")) {
+                wire.loop(move.equals("loop"));
+            } else if (move.charAt(0) == 't') {
+                ticks(wire, Integer.parseInt(move.substring(1)));
+            } else {
+                playAtEnd(wire, move, move.charAt(1) - '0');
+            }
+        }
+    }
+
+    private static void playAtEnd(OptionWire wire, String move, int end) {
+        switch (move.charAt(0)) {
+            case 'o':
+                wire.open(end, Integer.parseInt(move.substring(3)));
+                break;
+            case 'c':
+                wire.close(end);
+                break;
+            case 'd':
+                wire.deliver(end);
+                break;
+            case 'l':
+                wire.lose(end);
+                break;
+            default:
+                throw new IllegalArgumentException(move);
+        }
+    }
+
     static void deliverAll(OptionWire wire, int end) {
         for (int i = wire.waiting(end); i > 0; i--) {
             wire.deliver(end);
