@@ -380,22 +380,15 @@ public final class OptionWire {
 
     private void stopWaiting(int end) {
         End waiter = endOf(end);
-        if (waiter.state == CLOSING) {
-            sayByeAgain(end);
-            return;
-        }
-        if (waiter.state == HEARD) {
-            waiter.state = ASKING;
-        }
-        sendRequest(end);
-    }
-
-    private void sayByeAgain(int end) {
-        End closer = endOf(end);
-        if (closer.byes < MOST_BYES) {
+        if (waiter.state != CLOSING) {
+            if (waiter.state == HEARD) {
+                waiter.state = ASKING;
+            }
+            sendRequest(end);
+        } else if (waiter.byes < MOST_BYES) {
             sendBye(end);
         } else {
-            closer.state = CLOSED;
+            waiter.state = CLOSED;
         }
     }
 

@@ -86,9 +86,20 @@ public final class FaceTest {
                 open.add(method.getName());
             }
         }
-        for (Method method : OptionWire.class.getDeclaredMethods()) {
+        checkNames(OptionWire.class, open);
+        for (Class<?> inside : OptionWire.class.getDeclaredClasses()) {
+            Check.same(inside.getName() + " is static",
+                    Modifier.isStatic(inside.getModifiers()), true);
+            Check.same(inside.getName() + " is public or protected",
+                    (inside.getModifiers() & (Modifier.PUBLIC | Modifier.PROTECTED)) != 0, false);
+            checkNames(inside, open);
+        }
+    }
+
+    private static void checkNames(Class<?> type, TreeSet<String> open) {
+        for (Method method : type.getDeclaredMethods()) {
             if (!Modifier.isPublic(method.getModifiers())) {
-                Check.same("a private method has the public name " + method.getName(),
+                Check.same(type.getName() + "." + method.getName() + " bears a public name",
                         open.contains(method.getName()), false);
             }
         }

@@ -298,7 +298,7 @@ public final class NegotiationTest {
         }
     }
 
-    /** The answer to an old request of the end 1 comes to the end 0, which asks for other options. */
+    /** The end 0 gets the answer to an old request of the end 1, for an option it does not ask. */
     private static void counterOfAnUnaskedOptionIsTaken() {
         OptionWire wire = new OptionWire();
         wire.wish(1, 2, 50, 0, 100);

@@ -62,7 +62,7 @@ public final class PacketsTest {
         Check.same("kinds", Check.kinds(wire, 1), "[0 0 0 0 0 0 0 0 0 4 4 0]");
     }
 
-    /** With 12 packets at an end on a looped wire, the answer takes the place of the delivered one. */
+    /** On a looped wire with 12 packets, the answer takes the place of the delivered one. */
     private static void deliveredPacketLeavesItsPlaceFirst() {
         OptionWire wire = new OptionWire();
         wire.wish(0, 0, 50, 0, 100);

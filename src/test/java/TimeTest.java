@@ -18,7 +18,7 @@ public final class TimeTest {
 
     private static void timeGrowsByOne() {
         OptionWire wire = new OptionWire();
-        for (int time = 0; time < 400; time++) {
+        for (int time = 0; time < 250; time++) {
             Check.same("time", wire.time(), time);
             wire.tick();
         }
