@@ -3,8 +3,12 @@ final class Check {
     private static int checks = 0;
     private static int wrong = 0;
 
+    interface Maker {
+        OptionWire make();
+    }
+
     interface Call {
-        void make();
+        void on(OptionWire wire);
     }
 
     private Check() {
@@ -26,29 +30,79 @@ final class Check {
         }
     }
 
-    /** The call throws exactly this class, and nothing that can be asked for has changed. */
-    static void illegalArgument(String what, OptionWire wire, Call call) {
-        throwing(what, wire, IllegalArgumentException.class, call);
+    /**
+     * On a wire that is made for it the call throws exactly this class and changes nothing: neither
+     * what can be asked for at once nor what comes to light later.
+     */
+    static void illegalArgument(String what, Maker maker, Call call) {
+        throwing(what, maker, IllegalArgumentException.class, call);
     }
 
-    static void illegalState(String what, OptionWire wire, Call call) {
-        throwing(what, wire, IllegalStateException.class, call);
+    static void illegalState(String what, Maker maker, Call call) {
+        throwing(what, maker, IllegalStateException.class, call);
     }
 
-    static void noSuchElement(String what, OptionWire wire, Call call) {
-        throwing(what, wire, java.util.NoSuchElementException.class, call);
+    static void noSuchElement(String what, Maker maker, Call call) {
+        throwing(what, maker, java.util.NoSuchElementException.class, call);
     }
 
-    private static void throwing(String what, OptionWire wire, Class<?> due, Call call) {
-        String before = standing(wire);
-        String got = "nothing";
+    private static void throwing(String what, Maker maker, Class<?> due, Call call) {
+        OptionWire wire = maker.make();
+        OptionWire twin = maker.make();
+        same(what + " throws", thrown(wire, call), due.getName());
+        same("how things stand after " + what, standing(wire), standing(twin));
+        same("how things go on after " + what, future(wire), future(twin));
+    }
+
+    /** For a test that looks itself at what the call has left as it was. */
+    static void throwsOnly(String what, OptionWire wire, Call call) {
+        same(what + " throws something", thrown(wire, call).equals("nothing"), false);
+    }
+
+    private static String thrown(OptionWire wire, Call call) {
         try {
-            call.make();
+            call.on(wire);
         } catch (RuntimeException e) {
-            got = e.getClass().getName();
+            return e.getClass().getName();
         }
-        same(what + " throws", got, due.getName());
-        same("how things stand after " + what, standing(wire), before);
+        return "nothing";
+    }
+
+    /** What could not be asked for at once: how long the ends wait, and all that they want. */
+    private static String future(OptionWire wire) {
+        StringBuilder text = new StringBuilder("sent by ticks");
+        for (int i = 0; i < 3; i++) {
+            text.append(' ').append(wire.tick());
+        }
+        deliverAll(wire, 0);
+        deliverAll(wire, 1);
+        text.append("; ").append(standing(wire));
+        text.append("; looped ").append(wire.loop(false));
+        shutBoth(wire);
+        openBoth(wire);
+        for (int end = 0; end <= 1; end++) {
+            text.append("; opened with ").append(asked(wire, end));
+        }
+        shutBoth(wire);
+        for (int end = 0; end <= 1; end++) {
+            for (int option = 0; option <= 3; option++) {
+                text.append("; wish ").append(wire.wish(end, option, OptionWire.NONE, 0, 100));
+                text.append(", refused ").append(wire.refuse(end, option, false));
+            }
+        }
+        return text.toString();
+    }
+
+    private static void shutBoth(OptionWire wire) {
+        for (int end = 0; end <= 1; end++) {
+            int state = wire.state(end);
+            if (state >= OptionWire.ASKING && state <= OptionWire.OPENED) {
+                wire.close(end);
+            }
+        }
+        ticks(wire, 6);
+        loseAll(wire, 0);
+        loseAll(wire, 1);
     }
 
     /** All that can be asked for without a change. */
@@ -101,7 +155,9 @@ final class Check {
 
     /**
      * Makes calls told by short words: o0:7 is open(0, 7), c0 is close(0), d0 is deliver(0), l0 is
-     * lose(0), t3 is three ticks, "loop" and "unloop" are loop(true) and loop(false).
+     * lose(0), x0 is lose(0) until none waits, q0 closes the end 0, at which nothing waits, so that
+     * the other end hears nothing of it, t3 is three ticks, "loop" and "unloop" are loop(true) and
+     * loop(false).
      */
     static void play(OptionWire wire, String moves) {
         for (String move : moves.split(" ")) {
@@ -129,15 +185,43 @@ final class Check {
             case 'l':
                 wire.lose(end);
                 break;
+            case 'x':
+                loseAll(wire, end);
+                break;
+            case 'q':
+                closeQuietly(wire, end);
+                break;
             default:
                 throw new IllegalArgumentException(move);
         }
+    }
+
+    /** The end says good-bye to itself. */
+    private static void closeQuietly(OptionWire wire, int end) {
+        wire.loop(true);
+        wire.close(end);
+        wire.deliver(end);
+        wire.deliver(end);
+        wire.loop(false);
     }
 
     static void deliverAll(OptionWire wire, int end) {
         for (int i = wire.waiting(end); i > 0; i--) {
             wire.deliver(end);
         }
+    }
+
+    static void loseAll(OptionWire wire, int end) {
+        for (int i = wire.waiting(end); i > 0; i--) {
+            wire.lose(end);
+        }
+    }
+
+    /** A wire on which these moves have been played. */
+    static OptionWire played(String moves) {
+        OptionWire wire = new OptionWire();
+        play(wire, moves);
+        return wire;
     }
 
     /** Two ends that have opened with their wishes; marks 1 and 2, nothing waits. */

@@ -75,8 +75,13 @@ public final class FaceTest {
     }
 
     private static void constructorIsThatOfTheDocument() {
-        Constructor<?>[] all = OptionWire.class.getDeclaredConstructors();
-        Check.same("constructors", Arrays.toString(all), "[public OptionWire()]");
+        TreeSet<String> got = new TreeSet<>();
+        for (Constructor<?> constructor : OptionWire.class.getDeclaredConstructors()) {
+            if (isSeen(constructor)) {
+                got.add(constructor.toString());
+            }
+        }
+        Check.same("constructors", got.toString(), "[public OptionWire()]");
     }
 
     private static void noPrivateMethodBearsAPublicName() {
@@ -88,8 +93,6 @@ public final class FaceTest {
         }
         checkNames(OptionWire.class, open);
         for (Class<?> inside : OptionWire.class.getDeclaredClasses()) {
-            Check.same(inside.getName() + " is static",
-                    Modifier.isStatic(inside.getModifiers()), true);
             Check.same(inside.getName() + " is public or protected",
                     (inside.getModifiers() & (Modifier.PUBLIC | Modifier.PROTECTED)) != 0, false);
             checkNames(inside, open);

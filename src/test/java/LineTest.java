@@ -1,29 +1,15 @@
 /** Promises 19 and 20: lineLength and lineChar. */
 public final class LineTest {
-    private static final int[] NO_ENDS = {-1, 2, Integer.MIN_VALUE, Integer.MAX_VALUE};
-
     public static void main(String[] args) {
-        linesTellTheStates();
         linesTellTheAskedValues();
         linesFollowTheAnswers();
         linesAreThoseOfTheirEnds();
-        wrongArgumentsThrow();
         Check.finish();
     }
 
     private static void checkLine(OptionWire wire, int end, String due) {
         Check.same("lineLength", wire.lineLength(end), due.length());
         Check.same("line", Check.line(wire, end), due);
-    }
-
-    private static void linesTellTheStates() {
-        String[] names = {
-            "closed", "asking", "heard", "told", "opened", "closing", "failed", "looped",
-        };
-        for (int state = OptionWire.CLOSED; state <= OptionWire.LOOPED; state++) {
-            checkLine(States.wireWithEndIn(0, state), 0, names[state]);
-            checkLine(States.wireWithEndIn(1, state), 1, names[state]);
-        }
     }
 
     private static void linesTellTheAskedValues() {
@@ -74,24 +60,5 @@ public final class LineTest {
         Check.same("a letter of the end 1", wire.lineChar(1, 5), 'b');
         checkLine(wire, 0, "asking c12");
         checkLine(wire, 1, "told b3");
-    }
-
-    private static void wrongArgumentsThrow() {
-        OptionWire wire = new OptionWire();
-        wire.wish(0, 2, 12, 0, 100);
-        wire.open(0, 1);
-        for (int end : NO_ENDS) {
-            Check.illegalArgument("lineLength(" + end + ")", wire, () -> wire.lineLength(end));
-            Check.illegalArgument("lineChar(" + end + ", 0)", wire, () -> wire.lineChar(end, 0));
-            Check.illegalArgument("lineChar(" + end + ", -1)", wire, () -> wire.lineChar(end, -1));
-            Check.illegalArgument("lineChar(" + end + ", 99)", wire, () -> wire.lineChar(end, 99));
-        }
-        Check.same("the last letter", wire.lineChar(0, 9), '2');
-        for (int place : new int[] {-1, 10, 11, Integer.MIN_VALUE, Integer.MAX_VALUE}) {
-            Check.noSuchElement("lineChar(0, " + place + ")", wire, () -> wire.lineChar(0, place));
-        }
-        for (int place : new int[] {-1, 6, 7, Integer.MIN_VALUE, Integer.MAX_VALUE}) {
-            Check.noSuchElement("lineChar(1, " + place + ")", wire, () -> wire.lineChar(1, place));
-        }
     }
 }

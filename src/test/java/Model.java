@@ -275,6 +275,50 @@ final class Model {
         }
     }
 
+    boolean loop(boolean shallLoop) {
+        boolean before = isLooped;
+        isLooped = shallLoop;
+        return before;
+    }
+
+    int state(int end) {
+        return sides[end].state.ordinal();
+    }
+
+    int asked(int end, int option) {
+        return sides[end].asked.getOrDefault(option, -1);
+    }
+
+    int granted(int end, int option) {
+        return switch (sides[end].state) {
+            case HEARD, OPENED -> asked(end, option);
+            default -> -1;
+        };
+    }
+
+    int allowed(int end, int option) {
+        return switch (sides[end].state) {
+            case TOLD, OPENED -> sides[end].saidYesTo.getOrDefault(option, -1);
+            default -> -1;
+        };
+    }
+
+    int kindAt(int end, int place) {
+        List<Packet> packets = new ArrayList<>(sides[end].line);
+        if (place < 0 || place >= packets.size()) {
+            throw new NoSuchElementException();
+        }
+        return packets.get(place).kind().ordinal();
+    }
+
+    char lineChar(int end, int place) {
+        String text = line(end);
+        if (place < 0 || place >= text.length()) {
+            throw new NoSuchElementException();
+        }
+        return text.charAt(place);
+    }
+
     String line(int end) {
         String text = sides[end].state.name().toLowerCase();
         for (Map.Entry<Integer, Integer> entry : sides[end].asked.entrySet()) {
@@ -287,19 +331,14 @@ final class Model {
     String standing() {
         String text = "time " + time;
         for (int end = 0; end <= 1; end++) {
-            Side side = sides[end];
-            text += "; end " + end + ": " + line(end) + ", state " + side.state.ordinal()
-                    + ", tries " + side.tries + ", asked/granted/allowed";
-            boolean isGranted = side.state == State.HEARD || side.state == State.OPENED;
-            boolean hasAllowed = side.state == State.TOLD || side.state == State.OPENED;
+            text += "; end " + end + ": " + line(end) + ", state " + state(end) + ", tries "
+                    + sides[end].tries + ", asked/granted/allowed";
             for (int option = 0; option <= 3; option++) {
-                int asked = side.asked.getOrDefault(option, -1);
-                int allowed = side.saidYesTo.getOrDefault(option, -1);
-                text += " " + asked + "/" + (isGranted ? asked : -1) + "/"
-                        + (hasAllowed ? allowed : -1);
+                text += " " + asked(end, option) + "/" + granted(end, option) + "/"
+                        + allowed(end, option);
             }
             List<String> kinds = new ArrayList<>();
-            for (Packet packet : side.line) {
+            for (Packet packet : sides[end].line) {
                 kinds.add(String.valueOf(packet.kind().ordinal()));
             }
             text += ", waiting [" + String.join(" ", kinds) + "]";

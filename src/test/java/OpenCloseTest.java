@@ -1,19 +1,12 @@
 /** Promises 6 and 7: open and close. */
 public final class OpenCloseTest {
-    private static final int[] NO_ENDS = {-1, 2, Integer.MIN_VALUE, Integer.MAX_VALUE};
-
     public static void main(String[] args) {
         openAsksForTheWishes();
         openTakesItsEdges();
-        openOutOfRangeThrows();
-        openIsForShutEndsOnly();
         openGivesTenTriesAgain();
         openDoesNotStartTheNumbersAgain();
         openStartsTheLoopsAgain();
         closeSendsBye();
-        closeOutOfRangeThrows();
-        closeIsForEndsThatAreUp();
-        closeWaitsForTwoTicks();
         closeStartsTheByesAgain();
         closeKeepsTriesAndAskedValues();
         Check.finish();
@@ -38,36 +31,6 @@ public final class OpenCloseTest {
         Check.same("state(1)", wire.state(1), OptionWire.ASKING);
         wire.deliver(0);
         Check.same("the mark 999 is not the mark 1", wire.state(0), OptionWire.TOLD);
-    }
-
-    private static void openOutOfRangeThrows() {
-        OptionWire wire = new OptionWire();
-        for (int end : NO_ENDS) {
-            Check.illegalArgument("open(" + end + ", 1)", wire, () -> wire.open(end, 1));
-        }
-        for (int mark : new int[] {0, 1000, -1, Integer.MIN_VALUE, Integer.MAX_VALUE}) {
-            Check.illegalArgument("open(0, " + mark + ")", wire, () -> wire.open(0, mark));
-        }
-        wire.open(0, 1);
-        Check.illegalArgument("open(0, 0), not shut", wire, () -> wire.open(0, 0));
-        Check.illegalArgument("open(2, 1), not shut", wire, () -> wire.open(2, 1));
-    }
-
-    private static void openIsForShutEndsOnly() {
-        for (int state = OptionWire.CLOSED; state <= OptionWire.LOOPED; state++) {
-            for (int end = 0; end <= 1; end++) {
-                OptionWire wire = States.wireWithEndIn(end, state);
-                int opened = end;
-                if (state == OptionWire.CLOSED || state == OptionWire.FAILED
-                        || state == OptionWire.LOOPED) {
-                    wire.open(opened, 7);
-                    Check.same("open in state " + state, wire.state(end), OptionWire.ASKING);
-                    Check.same("tries behind it", wire.tries(end), 9);
-                } else {
-                    Check.illegalState("open in state " + state, wire, () -> wire.open(opened, 7));
-                }
-            }
-        }
     }
 
     private static void openGivesTenTriesAgain() {
@@ -125,45 +88,6 @@ public final class OpenCloseTest {
         Check.same("sent", Check.kinds(wire, 0), "[4]");
         Check.same("not sent", Check.kinds(wire, 1), "[]");
         Check.same("the other end", wire.state(0), OptionWire.CLOSED);
-    }
-
-    private static void closeOutOfRangeThrows() {
-        OptionWire wire = new OptionWire();
-        wire.open(0, 1);
-        wire.open(1, 2);
-        for (int end : NO_ENDS) {
-            Check.illegalArgument("close(" + end + ")", wire, () -> wire.close(end));
-        }
-    }
-
-    private static void closeIsForEndsThatAreUp() {
-        for (int state = OptionWire.CLOSED; state <= OptionWire.LOOPED; state++) {
-            for (int end = 0; end <= 1; end++) {
-                OptionWire wire = States.wireWithEndIn(end, state);
-                int closed = end;
-                if (state >= OptionWire.ASKING && state <= OptionWire.OPENED) {
-                    wire.close(closed);
-                    Check.same("close in state " + state, wire.state(end), OptionWire.CLOSING);
-                } else {
-                    Check.illegalState("close in state " + state, wire, () -> wire.close(closed));
-                }
-            }
-        }
-    }
-
-    private static void closeWaitsForTwoTicks() {
-        OptionWire wire = new OptionWire();
-        wire.open(0, 1);
-        wire.lose(1);
-        wire.close(0);
-        int[] sent = {0, 1, 0, 1, 0, 0};
-        for (int tick = 0; tick < sent.length; tick++) {
-            Check.same("state before tick " + tick, wire.state(0), OptionWire.CLOSING);
-            Check.same("sent by tick " + tick, wire.tick(), sent[tick]);
-        }
-        Check.same("state behind the ticks", wire.state(0), OptionWire.CLOSED);
-        Check.same("sent in all", Check.kinds(wire, 1), "[4 4 4]");
-        Check.same("sent by a tick when CLOSED", wire.tick() + wire.tick(), 0);
     }
 
     private static void closeStartsTheByesAgain() {

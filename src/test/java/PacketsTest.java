@@ -1,16 +1,11 @@
 /** Promises 8, 9, 17 and 18: deliver, lose, waiting, kindAt. */
 public final class PacketsTest {
-    private static final int[] NO_ENDS = {-1, 2, Integer.MIN_VALUE, Integer.MAX_VALUE};
-
     public static void main(String[] args) {
         packetsComeInTheOrderInWhichTheyWereSent();
         atMostTwelveWait();
         deliveredPacketLeavesItsPlaceFirst();
         placesAreUsedAgain();
         loseChangesNothingElse();
-        wrongEndsThrow();
-        emptyLinesThrow();
-        wrongPlacesThrow();
         byeIsAnsweredInEveryState();
         byeByeClosesClosingEndsOnly();
         shutAndClosingEndsDoNothingAtOthers();
@@ -106,45 +101,6 @@ public final class PacketsTest {
         Check.same("lose(1)", wire.lose(1), OptionWire.REQUEST);
         Check.same("lose(1)", wire.lose(1), OptionWire.BYE);
         Check.same("standing", Check.standing(wire), before.replace(kinds, ", waiting []"));
-    }
-
-    private static void wrongEndsThrow() {
-        OptionWire wire = wireWithSomePackets();
-        for (int end : NO_ENDS) {
-            Check.illegalArgument("deliver(" + end + ")", wire, () -> wire.deliver(end));
-            Check.illegalArgument("lose(" + end + ")", wire, () -> wire.lose(end));
-            Check.illegalArgument("waiting(" + end + ")", wire, () -> wire.waiting(end));
-            Check.illegalArgument("kindAt(" + end + ", 0)", wire, () -> wire.kindAt(end, 0));
-            Check.illegalArgument("kindAt(" + end + ", -1)", wire, () -> wire.kindAt(end, -1));
-            Check.illegalArgument("kindAt(" + end + ", 99)", wire, () -> wire.kindAt(end, 99));
-        }
-    }
-
-    private static void emptyLinesThrow() {
-        OptionWire wire = new OptionWire();
-        for (int round = 0; round < 2; round++) {
-            Check.noSuchElement("deliver(0)", wire, () -> wire.deliver(0));
-            Check.noSuchElement("deliver(1)", wire, () -> wire.deliver(1));
-            Check.noSuchElement("lose(0)", wire, () -> wire.lose(0));
-            Check.noSuchElement("lose(1)", wire, () -> wire.lose(1));
-            Check.noSuchElement("kindAt(0, 0)", wire, () -> wire.kindAt(0, 0));
-            Check.noSuchElement("kindAt(1, 0)", wire, () -> wire.kindAt(1, 0));
-            wire.open(0, 1);
-            wire.lose(1);
-            wire.close(0);
-            wire.deliver(1);
-            wire.deliver(0);
-        }
-    }
-
-    private static void wrongPlacesThrow() {
-        OptionWire wire = wireWithSomePackets();
-        Check.same("kindAt(1, 2)", wire.kindAt(1, 2), OptionWire.BYE);
-        for (int place : new int[] {-1, 3, 12, 13, Integer.MIN_VALUE, Integer.MAX_VALUE}) {
-            Check.noSuchElement("kindAt(1, " + place + ")", wire, () -> wire.kindAt(1, place));
-        }
-        wire.lose(1);
-        Check.noSuchElement("kindAt(1, 2)", wire, () -> wire.kindAt(1, 2));
     }
 
     private static void byeIsAnsweredInEveryState() {

@@ -1,8 +1,5 @@
 /** Promises 12 to 16: state, tries, asked, granted, allowed. */
 public final class StandsTest {
-    private static final int[] NO_ENDS = {-1, 2, Integer.MIN_VALUE, Integer.MAX_VALUE};
-    private static final int[] NO_OPTIONS = {-1, 4, Integer.MIN_VALUE, Integer.MAX_VALUE};
-
     public static void main(String[] args) {
         statesAreToldByTheirNumbers();
         triesStayBehindClosing();
@@ -12,8 +9,6 @@ public final class StandsTest {
         allowedIsOfTheLastRequest();
         allowedIsNoneForWhatWasNotAsked();
         yesThatIsLostAllowsAllTheSame();
-        wrongEndsThrow();
-        wrongOptionsThrow();
         Check.finish();
     }
 
@@ -159,36 +154,5 @@ public final class StandsTest {
         Check.same("waiting(0)", wire.waiting(0), 12);
         Check.same("state", wire.state(1), OptionWire.TOLD);
         Check.same("allowed", allowed(wire, 1), "10 0 -1 -1");
-    }
-
-    private static void wrongEndsThrow() {
-        OptionWire wire = wireWithValues();
-        Check.openBoth(wire);
-        for (int end : NO_ENDS) {
-            Check.illegalArgument("state(" + end + ")", wire, () -> wire.state(end));
-            Check.illegalArgument("tries(" + end + ")", wire, () -> wire.tries(end));
-            Check.illegalArgument("asked(" + end + ", 0)", wire, () -> wire.asked(end, 0));
-            Check.illegalArgument("granted(" + end + ", 0)", wire, () -> wire.granted(end, 0));
-            Check.illegalArgument("allowed(" + end + ", 0)", wire, () -> wire.allowed(end, 0));
-        }
-    }
-
-    private static void wrongOptionsThrow() {
-        OptionWire fresh = new OptionWire();
-        OptionWire opened = wireWithValues();
-        Check.openBoth(opened);
-        for (OptionWire wire : new OptionWire[] {fresh, opened}) {
-            for (int end = 0; end <= 1; end++) {
-                int at = end;
-                for (int option : NO_OPTIONS) {
-                    Check.illegalArgument("asked(" + end + ", " + option + ")", wire,
-                            () -> wire.asked(at, option));
-                    Check.illegalArgument("granted(" + end + ", " + option + ")", wire,
-                            () -> wire.granted(at, option));
-                    Check.illegalArgument("allowed(" + end + ", " + option + ")", wire,
-                            () -> wire.allowed(at, option));
-                }
-            }
-        }
     }
 }

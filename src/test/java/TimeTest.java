@@ -1,8 +1,6 @@
 /** Promises 10 and 11: tick and time. */
 public final class TimeTest {
     public static void main(String[] args) {
-        timeGrowsByOne();
-        ticksDoNothingToEndsThatDoNotWait();
         askingAndToldEndsAskAgain();
         heardEndIsAskingAgain();
         endWithoutTriesFails();
@@ -12,34 +10,7 @@ public final class TimeTest {
         requestsDoNotStartTheWaitAgain();
         lostPacketsCount();
         ticksCountOnlyTheirOwnPackets();
-        closingEndSendsThreeByes();
         Check.finish();
-    }
-
-    private static void timeGrowsByOne() {
-        OptionWire wire = new OptionWire();
-        for (int time = 0; time < 250; time++) {
-            Check.same("time", wire.time(), time);
-            wire.tick();
-        }
-    }
-
-    private static void ticksDoNothingToEndsThatDoNotWait() {
-        int[] states = {
-            OptionWire.CLOSED, OptionWire.OPENED, OptionWire.FAILED, OptionWire.LOOPED,
-        };
-        for (int state : states) {
-            for (int end = 0; end <= 1; end++) {
-                OptionWire wire = States.wireWithEndIn(end, state);
-                int time = wire.time();
-                String before = Check.standing(wire);
-                for (int tick = 1; tick <= 12; tick++) {
-                    Check.same("sent in state " + state, wire.tick(), 0);
-                    Check.same("standing in state " + state, Check.standing(wire),
-                            before.replace("time " + time, "time " + (time + tick)));
-                }
-            }
-        }
     }
 
     private static void askingAndToldEndsAskAgain() {
@@ -177,17 +148,5 @@ public final class TimeTest {
         Check.same("sent", wire.tick(), 0);
         Check.same("sent", wire.tick(), 2);
         Check.same("sent", wire.tick(), 0);
-    }
-
-    private static void closingEndSendsThreeByes() {
-        OptionWire wire = new OptionWire();
-        Check.play(wire, "o1:1 t1 c1");
-        int[] sent = {0, 1, 0, 1, 0, 0, 0, 0};
-        for (int tick = 0; tick < sent.length; tick++) {
-            Check.same("sent by tick " + tick, wire.tick(), sent[tick]);
-            Check.same("state", wire.state(1),
-                    tick < 5 ? OptionWire.CLOSING : OptionWire.CLOSED);
-        }
-        Check.same("kinds", Check.kinds(wire, 0), "[0 4 4 4]");
     }
 }

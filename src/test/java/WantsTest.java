@@ -1,15 +1,6 @@
 /** Promises 1 to 5: a new object, wish, allow, refuse, loop. */
 public final class WantsTest {
-    private static final int[] NO_ENDS = {-1, 2, Integer.MIN_VALUE, Integer.MAX_VALUE};
-    private static final int[] NO_OPTIONS = {-1, 4, Integer.MIN_VALUE, Integer.MAX_VALUE};
-    private static final int[][] NO_RANGES = {
-        {-1, 50}, {0, 101}, {101, 101}, {51, 50}, {100, 0}, {-1, -1}, {0, -1}, {1, 0},
-        {Integer.MIN_VALUE, 50}, {50, Integer.MAX_VALUE}, {Integer.MIN_VALUE, Integer.MAX_VALUE},
-        {Integer.MAX_VALUE, Integer.MIN_VALUE},
-    };
-
     public static void main(String[] args) {
-        newObjectIsClosedAndEmpty();
         objectsAreApart();
         newObjectHasWidestBounds();
         newObjectHasWidestLimits();
@@ -17,26 +8,12 @@ public final class WantsTest {
         wishReturnsTheWishBefore();
         wishIsAskedFromTheNextOpenOn();
         limitsHoldForCounters();
-        wishOutOfRangeThrows();
         wishThatThrowsChangesNothing();
         boundsHoldForRequests();
-        allowOutOfRangeThrows();
         allowThatThrowsChangesNothing();
-        refuseReturnsWhatWasBefore();
         refusedOptionsAreRefused();
-        refuseOutOfRangeThrows();
-        wantsAreSetOfShutEndsOnly();
-        argumentsAreLookedAtBeforeTheState();
-        loopReturnsWhatWasBefore();
         loopIsForPacketsSentFromNowOn();
         Check.finish();
-    }
-
-    private static void newObjectIsClosedAndEmpty() {
-        String end = ": closed, state 0, tries 0, asked/granted/allowed"
-                + " -1/-1/-1 -1/-1/-1 -1/-1/-1 -1/-1/-1, waiting []";
-        Check.same("a new object", Check.standing(new OptionWire()),
-                "time 0; end 0" + end + "; end 1" + end);
     }
 
     private static void objectsAreApart() {
@@ -171,48 +148,19 @@ public final class WantsTest {
         }
     }
 
-    private static void wishOutOfRangeThrows() {
-        OptionWire wire = new OptionWire();
-        for (int end : NO_ENDS) {
-            Check.illegalArgument("wish(" + end + ", 0, 1, 0, 2)", wire,
-                    () -> wire.wish(end, 0, 1, 0, 2));
-        }
-        for (int option : NO_OPTIONS) {
-            Check.illegalArgument("wish(0, " + option + ", 1, 0, 2)", wire,
-                    () -> wire.wish(0, option, 1, 0, 2));
-        }
-        for (int[] range : NO_RANGES) {
-            Check.illegalArgument("wish(1, 3, -1, " + range[0] + ", " + range[1] + ")", wire,
-                    () -> wire.wish(1, 3, -1, range[0], range[1]));
-            Check.illegalArgument("wish(1, 3, 50, " + range[0] + ", " + range[1] + ")", wire,
-                    () -> wire.wish(1, 3, 50, range[0], range[1]));
-        }
-        for (int wish : new int[] {-2, 101, Integer.MIN_VALUE, Integer.MAX_VALUE}) {
-            Check.illegalArgument("wish(1, 0, " + wish + ", 0, 100)", wire,
-                    () -> wire.wish(1, 0, wish, 0, 100));
-        }
-        Check.illegalArgument("wish(0, 0, 9, 10, 20)", wire, () -> wire.wish(0, 0, 9, 10, 20));
-        Check.illegalArgument("wish(0, 0, 21, 10, 20)", wire, () -> wire.wish(0, 0, 21, 10, 20));
-        Check.illegalArgument("wish(0, 0, 0, 1, 1)", wire, () -> wire.wish(0, 0, 0, 1, 1));
-    }
-
     private static void wishThatThrowsChangesNothing() {
         OptionWire wire = new OptionWire();
         wire.wish(0, 1, 50, 45, 55);
         wire.allow(1, 1, 0, 40);
-        Check.illegalArgument("wish(0, 1, 30, 40, 60)", wire, () -> wire.wish(0, 1, 30, 40, 60));
-        Check.illegalArgument("wish(0, 1, 61, 40, 60)", wire, () -> wire.wish(0, 1, 61, 40, 60));
-        Check.illegalArgument("wish(0, 1, 50, 40, 101)", wire, () -> wire.wish(0, 1, 50, 40, 101));
+        Check.throwsOnly("most below wish", wire, w -> w.wish(0, 1, 61, 40, 60));
+        Check.throwsOnly("least above wish", wire, w -> w.wish(0, 1, 30, 40, 60));
+        Check.throwsOnly("most above 100", wire, w -> w.wish(0, 1, 50, 40, 101));
         wire.open(0, 1);
-        Check.illegalState("wish(0, 1, 50, 40, 60)", wire, () -> wire.wish(0, 1, 50, 40, 60));
+        Check.throwsOnly("not shut", wire, w -> w.wish(0, 1, 50, 40, 60));
         Check.same("asked is the wish before", wire.asked(0, 1), 50);
-        wire.open(1, 2);
-        wire.deliver(1);
-        wire.lose(0);
-        wire.deliver(0);
+        Check.play(wire, "o1:2 d1 l0 d0");
         Check.same("40 is not within the limits before", wire.asked(0, 1), -1);
-        wire.close(0);
-        Check.ticks(wire, 6);
+        Check.play(wire, "c0 t6");
         Check.same("the wish before", wire.wish(0, 1, 1, 0, 100), 50);
     }
 
@@ -241,49 +189,17 @@ public final class WantsTest {
         }
     }
 
-    private static void allowOutOfRangeThrows() {
-        OptionWire wire = new OptionWire();
-        for (int end : NO_ENDS) {
-            Check.illegalArgument("allow(" + end + ", 0, 0, 2)", wire,
-                    () -> wire.allow(end, 0, 0, 2));
-        }
-        for (int option : NO_OPTIONS) {
-            Check.illegalArgument("allow(1, " + option + ", 0, 2)", wire,
-                    () -> wire.allow(1, option, 0, 2));
-        }
-        for (int[] range : NO_RANGES) {
-            Check.illegalArgument("allow(0, 3, " + range[0] + ", " + range[1] + ")", wire,
-                    () -> wire.allow(0, 3, range[0], range[1]));
-        }
-    }
-
     private static void allowThatThrowsChangesNothing() {
         OptionWire wire = new OptionWire();
         wire.allow(1, 2, 20, 30);
         wire.wish(0, 2, 25, 0, 100);
-        Check.illegalArgument("allow(1, 2, 0, 101)", wire, () -> wire.allow(1, 2, 0, 101));
-        Check.illegalArgument("allow(1, 2, 10, 5)", wire, () -> wire.allow(1, 2, 10, 5));
-        Check.illegalArgument("allow(1, 2, -1, 5)", wire, () -> wire.allow(1, 2, -1, 5));
+        Check.throwsOnly("most above 100", wire, w -> w.allow(1, 2, 26, 101));
+        Check.throwsOnly("most below least", wire, w -> w.allow(1, 2, 10, 5));
+        Check.throwsOnly("least below 0", wire, w -> w.allow(1, 2, -1, 5));
         wire.open(1, 2);
-        Check.illegalState("allow(1, 2, 0, 5)", wire, () -> wire.allow(1, 2, 0, 5));
-        wire.open(0, 1);
-        wire.deliver(1);
+        Check.throwsOnly("not shut", wire, w -> w.allow(1, 2, 0, 5));
+        Check.play(wire, "o0:1 d1");
         Check.same("25 is within the bounds before", wire.allowed(1, 2), 25);
-    }
-
-    private static void refuseReturnsWhatWasBefore() {
-        OptionWire wire = new OptionWire();
-        for (int end = 0; end <= 1; end++) {
-            for (int option = 0; option <= 3; option++) {
-                Check.same("refuse, first", wire.refuse(end, option, true), false);
-                Check.same("refuse, second", wire.refuse(end, option, true), true);
-                Check.same("refuse, third", wire.refuse(end, option, false), true);
-                Check.same("refuse, fourth", wire.refuse(end, option, option == 2), false);
-            }
-        }
-        for (int option = 0; option <= 3; option++) {
-            Check.same("refuse, last", wire.refuse(0, option, false), option == 2);
-        }
     }
 
     private static void refusedOptionsAreRefused() {
@@ -303,73 +219,6 @@ public final class WantsTest {
         Check.same("kind", wire.kindAt(0, 0), OptionWire.REFUSAL);
         wire.deliver(0);
         Check.same("asked", Check.asked(wire, 0), "10 -1 12 -1");
-    }
-
-    private static void refuseOutOfRangeThrows() {
-        OptionWire wire = new OptionWire();
-        for (int end : NO_ENDS) {
-            Check.illegalArgument("refuse(" + end + ", 0, true)", wire,
-                    () -> wire.refuse(end, 0, true));
-        }
-        for (int option : NO_OPTIONS) {
-            Check.illegalArgument("refuse(1, " + option + ", true)", wire,
-                    () -> wire.refuse(1, option, true));
-        }
-        for (int option = 0; option <= 3; option++) {
-            Check.same("refused before", wire.refuse(0, option, true), false);
-            Check.same("refused before", wire.refuse(1, option, true), false);
-        }
-        wire.open(0, 1);
-        Check.illegalState("refuse(0, 0, false)", wire, () -> wire.refuse(0, 0, false));
-        wire.close(0);
-        Check.ticks(wire, 6);
-        Check.same("refused before", wire.refuse(0, 0, true), true);
-    }
-
-    private static void wantsAreSetOfShutEndsOnly() {
-        for (int state = OptionWire.CLOSED; state <= OptionWire.LOOPED; state++) {
-            for (int end = 0; end <= 1; end++) {
-                wantsOfAnEndIn(end, state);
-            }
-        }
-    }
-
-    private static void wantsOfAnEndIn(int end, int state) {
-        OptionWire wire = States.wireWithEndIn(end, state);
-        boolean isShut = state == OptionWire.CLOSED || state == OptionWire.FAILED
-                || state == OptionWire.LOOPED;
-        if (isShut) {
-            Check.same("wish in state " + state, wire.wish(end, 3, 8, 0, 100), -1);
-            Check.same("wish again in state " + state, wire.wish(end, 3, 9, 0, 100), 8);
-            wire.allow(end, 3, 8, 9);
-            Check.same("refuse in state " + state, wire.refuse(end, 3, true), false);
-            Check.same("refuse again in state " + state, wire.refuse(end, 3, true), true);
-        } else {
-            Check.illegalState("wish in state " + state, wire,
-                    () -> wire.wish(end, 3, 8, 0, 100));
-            Check.illegalState("allow in state " + state, wire, () -> wire.allow(end, 3, 8, 9));
-            Check.illegalState("refuse in state " + state, wire,
-                    () -> wire.refuse(end, 3, true));
-        }
-    }
-
-    private static void argumentsAreLookedAtBeforeTheState() {
-        OptionWire wire = new OptionWire();
-        wire.open(0, 1);
-        Check.illegalArgument("wish(0, 4, ..)", wire, () -> wire.wish(0, 4, 1, 0, 2));
-        Check.illegalArgument("wish(0, 0, 3, 0, 2)", wire, () -> wire.wish(0, 0, 3, 0, 2));
-        Check.illegalArgument("wish(0, 0, 1, 0, 101)", wire, () -> wire.wish(0, 0, 1, 0, 101));
-        Check.illegalArgument("allow(0, -1, 0, 2)", wire, () -> wire.allow(0, -1, 0, 2));
-        Check.illegalArgument("allow(0, 0, 3, 2)", wire, () -> wire.allow(0, 0, 3, 2));
-        Check.illegalArgument("refuse(0, 4, true)", wire, () -> wire.refuse(0, 4, true));
-    }
-
-    private static void loopReturnsWhatWasBefore() {
-        OptionWire wire = new OptionWire();
-        Check.same("loop(true), first", wire.loop(true), false);
-        Check.same("loop(true), second", wire.loop(true), true);
-        Check.same("loop(false), first", wire.loop(false), true);
-        Check.same("loop(false), second", wire.loop(false), false);
     }
 
     private static void loopIsForPacketsSentFromNowOn() {
